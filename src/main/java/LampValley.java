@@ -37,7 +37,7 @@ public final class LampValley {
     private static final int END_DUSKS = 1000;
 
     private final int[] tape = new int[MOST_BYTES];
-    private final Reader reader = new Reader(tape);
+    private final Reader reader;
     private final Story story = new Story();
     private final Story kept = new Story();
     private final Scene trial = new Scene();
@@ -53,6 +53,7 @@ public final class LampValley {
     private boolean isKept;
 
     public LampValley() {
+        reader = new Reader(tape, spare);
         way = new Way(told);
         story.begin(told);
     }
@@ -541,10 +542,11 @@ public final class LampValley {
         private int behind;
         private int lastStart;
         private int wordsTold;
-        private Told into = new Told();
+        private Told into;
 
-        Reader(int[] bytes) {
+        Reader(int[] bytes, Told first) {
             text = bytes;
+            into = first;
         }
 
         void read(int count, Told target) {

@@ -38,7 +38,9 @@ public final class AskTest {
         // Three NIGHTS bring a drunk one round; an even number is asked for.
         ends("full 4;drunk 0 2 1;plain 1 0 0;", 1, 6, 3);
         ends(ODD, 0, 2, 3);
-        // A shy one between two drunk ones.
+        // FOG of NIGHT 99 leads the first one away: only the dusk of NIGHT 101 comes again.
+        ends("full 6;step 3;plain 0 0 6;plain 0 0 6;plain 0 6 0;likes 0 1;fog 99 0 1;", 0, 2, 7);
+        // As the Model has it, too: a long round of all kinds.
         ends("full 19;step 3;plain 0 12 3;shy 0 4 7;bold 0 9 10;drunk 0 14 0;drunk 0 0 10;drunk 0 1 7;"
                 + "likes 0 3;likes 1 2;likes 2 5;likes 3 4;likes 4 0;likes 5 1;", 5, 36, 63);
         LampValley x = Check.told(TWO);

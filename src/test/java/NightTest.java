@@ -78,6 +78,7 @@ public final class NightTest {
         behind("full 6;plain 0 6 0;plain 1 0 6;plain 0 0 0;likes 0 1;fog 0 1 0;", 1, 0, 5, 1, 0);
         behind("full 6;plain 0 6 0;plain 1 0 6;plain 0 0 0;likes 0 1;fog 1 0 1;", 1, 0, 5, 1, 0);
         behind("full 6;plain 0 6 0;plain 1 0 6;plain 0 0 0;likes 0 1;fog 1 0 1;", 2, 0, 4, 1, 1);
+        behind("full 30;plain 0 30 0;plain 1 0 30;plain 0 0 0;likes 0 1;fog 0 0 1;", 1, 0, 29, 0, 1);
         // The nearest one that isn't hidden may be OUT: then it is passed over.
         behind("full 6;plain 0 6 0;plain 1 0 0;plain 0 4 2;plain 1 4 2;plain 0 0 6;likes 0 1;fog 1 0 1;",
                 2, 0, 4, 1, 1);
