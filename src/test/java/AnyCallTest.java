@@ -45,14 +45,14 @@ public final class AnyCallTest {
             for (int at = 0; at < arguments.length; at++) {
                 arguments[at] = pick(random);
             }
-            String before = look(x);
+            String before = Check.look(x);
             try {
                 method.invoke(x, arguments);
             } catch (InvocationTargetException e) {
                 String call = "run " + run + ": " + method.getName() + Arrays.toString(arguments);
                 boolean declared = Arrays.asList(method.getExceptionTypes()).contains(e.getCause().getClass());
                 Check.same(call + " may throw " + e.getCause(), declared, true);
-                Check.same(call + " throws, and then all", look(x), before);
+                Check.same(call + " throws, and then all", Check.look(x), before);
             }
         }
     }
@@ -63,22 +63,5 @@ public final class AnyCallTest {
             return ODD_NUMBERS[random.nextInt(ODD_NUMBERS.length)];
         }
         return kind == 1 ? random.nextInt() : kind == 2 ? random.nextInt(100) : random.nextInt(7);
-    }
-
-    private static String look(LampValley x) {
-        StringBuilder text = new StringBuilder();
-        for (int what = 0; what <= 12; what++) {
-            text.append(x.count(what)).append(' ');
-        }
-        text.append(x.fault());
-        for (int lamp = 0; lamp < x.count(1); lamp++) {
-            for (int what = 0; what <= 7; what++) {
-                text.append(' ').append(x.lamp(lamp, what));
-            }
-            for (int night = 0; night <= x.count(7); night++) {
-                text.append(' ').append(x.book(night, lamp, 0)).append(x.book(night, lamp, 1));
-            }
-        }
-        return text.toString();
     }
 }

@@ -62,6 +62,54 @@ final class Check {
         return valley;
     }
 
+    /** All that can be seen of the object by count, fault, lamp and book. */
+    static String look(LampValley valley) {
+        StringBuilder text = new StringBuilder();
+        for (int what = 0; what <= 12; what++) {
+            text.append(valley.count(what)).append(' ');
+        }
+        return text.append(valley.fault()).append(lookAtLamps(valley)).toString();
+    }
+
+    /** All that can be seen of the LAMPS, by lamp and book. */
+    static String lookAtLamps(LampValley valley) {
+        StringBuilder text = new StringBuilder();
+        for (int lamp = 0; lamp < valley.count(1); lamp++) {
+            for (int what = 0; what <= 7; what++) {
+                text.append(' ').append(valley.lamp(lamp, what));
+            }
+            for (int night = 0; night <= valley.count(7); night++) {
+                text.append(' ').append(valley.book(night, lamp, 0)).append('.').append(valley.book(night, lamp, 1));
+            }
+        }
+        return text.toString();
+    }
+
+    /** The answers of count, each what in its order. */
+    static int[] counts(LampValley valley) {
+        int[] counts = new int[13];
+        for (int what = 0; what <= 12; what++) {
+            counts[what] = valley.count(what);
+        }
+        return counts;
+    }
+
+    /** Whom each LAMP married. */
+    static int[] spouses(LampValley valley) {
+        int[] spouses = new int[valley.count(1)];
+        for (int lamp = 0; lamp < spouses.length; lamp++) {
+            spouses[lamp] = valley.lamp(lamp, 6);
+        }
+        return spouses;
+    }
+
+    /** The LAMP's OILS behind so many NIGHTS of that text. */
+    static void behind(String text, int nights, int lamp, int... oils) {
+        LampValley valley = told(text);
+        valley.nights(nights);
+        row(text + " lamp " + lamp + " behind " + nights, oils(valley, lamp), oils);
+    }
+
     static int[] oils(LampValley valley, int lamp) {
         return new int[] {valley.lamp(lamp, 2), valley.lamp(lamp, 3), valley.lamp(lamp, 4)};
     }

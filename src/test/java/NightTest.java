@@ -20,13 +20,6 @@ public final class NightTest {
         Check.finish("NightTest");
     }
 
-    /** The LAMP's OILS behind so many NIGHTS of that text. */
-    private static void behind(String text, int nights, int lamp, int... oils) {
-        LampValley x = Check.told(text);
-        x.nights(nights);
-        Check.row(text + " lamp " + lamp + " behind " + nights, Check.oils(x, lamp), oils);
-    }
-
     private static void lampAndFar() {
         LampValley x = Check.told("full 6;bold 1 6 0;shy 0 1 2;likes 1 0;");
         Check.same("likes none", x.lamp(0, 5), -1);
@@ -45,85 +38,77 @@ public final class NightTest {
     }
 
     private static void whoDoesntMove() {
-        behind("full 4;widow 0 4 0;plain 1 0 4;likes 0 1;", 5, 0, 4, 0, 0);
-        behind("full 4;shy 0 4 0;plain 1 0 4;likes 0 1;", 1, 0, 4, 0, 0);
-        behind("full 4;shy 0 4 0;plain 1 0 4;likes 0 1;", 3, 0, 3, 1, 0);
-        behind("full 4;plain 0 4 0;plain 1 0 4;", 3, 0, 4, 0, 0);
+        Check.behind("full 4;widow 0 4 0;plain 1 0 4;likes 0 1;", 5, 0, 4, 0, 0);
+        Check.behind("full 4;shy 0 4 0;plain 1 0 4;likes 0 1;", 1, 0, 4, 0, 0);
+        Check.behind("full 4;shy 0 4 0;plain 1 0 4;likes 0 1;", 3, 0, 3, 1, 0);
+        Check.behind("full 4;plain 0 4 0;plain 1 0 4;", 3, 0, 4, 0, 0);
         String fright = "full 6;plain 0 6 0;widow 0 4 2;plain 1 0 0;likes 0 2;fright ";
-        behind(fright + "2;", 3, 0, 6, 0, 0);
-        behind(fright + "1;", 1, 0, 5, 0, 1);
+        Check.behind(fright + "2;", 3, 0, 6, 0, 0);
+        Check.behind(fright + "1;", 1, 0, 5, 0, 1);
         // By 0 too, a widow holds one who is just as she is.
-        behind("full 4;plain 0 2 1;widow 0 2 1;plain 1 0 4;likes 0 2;", 2, 0, 2, 1, 1);
+        Check.behind("full 4;plain 0 2 1;widow 0 2 1;plain 1 0 4;likes 0 2;", 2, 0, 2, 1, 1);
         // The widow marries in NIGHT 0, and holds nobody then.
         String wed = "full 4;fright 1;plain 0 2 2;widow 1 2 2;plain 0 3 1;plain 1 0 0;likes 2 3;";
-        behind(wed, 1, 2, 3, 1, 0);
-        behind(wed, 2, 2, 2, 1, 1);
+        Check.behind(wed, 1, 2, 3, 1, 0);
+        Check.behind(wed, 2, 2, 2, 1, 1);
         // One who is OUT stays as it is.
-        behind("full 4;plain 0 4 0;plain 1 4 0;plain 1 0 4;likes 0 2;near 1;", 5, 0, 3, 1, 0);
+        Check.behind("full 4;plain 0 4 0;plain 1 4 0;plain 1 0 4;likes 0 2;near 1;", 5, 0, 3, 1, 0);
     }
 
     private static void whereTo() {
         String out = "full 6;plain 0 6 0;plain 0 0 6;plain 1 0 6;likes 0 1;";
-        behind(out, 1, 0, 5, 1, 0);
-        behind(out, 4, 0, 5, 1, 0);
+        Check.behind(out, 1, 0, 5, 1, 0);
+        Check.behind(out, 4, 0, 5, 1, 0);
         // Whom it LIKES is OUT: FOG leads it nowhere.
-        behind(out + "fog 1 0 1;", 4, 0, 5, 1, 0);
+        Check.behind(out + "fog 1 0 1;", 4, 0, 5, 1, 0);
         String fog = "full 6;plain 0 6 0;plain 1 0 6;plain 0 4 2;plain 0 4 0;likes 0 1;";
-        behind(fog + "fog 0 0 1;", 1, 0, 5, 1, 0);
-        behind(fog + "fog 0 0 1;fog 0 0 2;", 1, 0, 5, 0, 1);
-        behind(fog + "fog 0 0 1;fog 0 0 2;fog 0 0 3;", 1, 0, 6, 0, 0);
-        behind(fog + "fog 0 0 1;fog 0 0 2;fog 0 0 3;", 2, 0, 5, 1, 0);
-        behind("full 6;plain 0 6 0;plain 1 0 6;plain 0 4 2;plain 0 5 0;likes 0 1;fog 0 0 1;", 1, 0, 5, 0, 1);
+        Check.behind(fog + "fog 0 0 1;", 1, 0, 5, 1, 0);
+        Check.behind(fog + "fog 0 0 1;fog 0 0 2;", 1, 0, 5, 0, 1);
+        Check.behind(fog + "fog 0 0 1;fog 0 0 2;fog 0 0 3;", 1, 0, 6, 0, 0);
+        Check.behind(fog + "fog 0 0 1;fog 0 0 2;fog 0 0 3;", 2, 0, 5, 1, 0);
+        Check.behind("full 6;plain 0 6 0;plain 1 0 6;plain 0 4 2;plain 0 5 0;likes 0 1;fog 0 0 1;", 1, 0, 5, 0, 1);
         // FOG hides the one from the other, not the other from the one.
-        behind("full 6;plain 0 6 0;plain 1 0 6;plain 0 0 0;likes 0 1;fog 0 1 0;", 1, 0, 5, 1, 0);
-        behind("full 6;plain 0 6 0;plain 1 0 6;plain 0 0 0;likes 0 1;fog 1 0 1;", 1, 0, 5, 1, 0);
-        behind("full 6;plain 0 6 0;plain 1 0 6;plain 0 0 0;likes 0 1;fog 1 0 1;", 2, 0, 4, 1, 1);
-        behind("full 30;plain 0 30 0;plain 1 0 30;plain 0 0 0;likes 0 1;fog 0 0 1;", 1, 0, 29, 0, 1);
+        Check.behind("full 6;plain 0 6 0;plain 1 0 6;plain 0 0 0;likes 0 1;fog 0 1 0;", 1, 0, 5, 1, 0);
+        Check.behind("full 6;plain 0 6 0;plain 1 0 6;plain 0 0 0;likes 0 1;fog 1 0 1;", 1, 0, 5, 1, 0);
+        Check.behind("full 6;plain 0 6 0;plain 1 0 6;plain 0 0 0;likes 0 1;fog 1 0 1;", 2, 0, 4, 1, 1);
+        Check.behind("full 30;plain 0 30 0;plain 1 0 30;plain 0 0 0;likes 0 1;fog 0 0 1;", 1, 0, 29, 0, 1);
         // The nearest one that isn't hidden may be OUT: then it is passed over.
-        behind("full 6;plain 0 6 0;plain 1 0 0;plain 0 4 2;plain 1 4 2;plain 0 0 6;likes 0 1;fog 1 0 1;",
+        Check.behind("full 6;plain 0 6 0;plain 1 0 0;plain 0 4 2;plain 1 4 2;plain 0 0 6;likes 0 1;fog 1 0 1;",
                 2, 0, 4, 1, 1);
     }
 
     private static void howFar() {
         String tie = "full 6;plain 0 6 0;plain 1 0 3;likes 0 1;step ";
-        behind(tie + "1;", 1, 0, 5, 1, 0);
-        behind(tie + "2;", 1, 0, 4, 1, 1);
-        behind("full 6;plain 0 3 3;plain 1 0 0;likes 0 1;", 1, 0, 2, 3, 1);
-        behind("full 6;plain 0 3 3;plain 1 0 0;likes 0 1;step 2;", 1, 0, 2, 2, 2);
-        behind("full 6;plain 0 4 0;plain 0 0 4;likes 0 1;step 9;", 1, 0, 0, 4, 2);
-        behind("full 9;bold 0 9 0;plain 1 0 9;likes 0 1;step 2;", 1, 0, 5, 4, 0);
+        Check.behind(tie + "1;", 1, 0, 5, 1, 0);
+        Check.behind(tie + "2;", 1, 0, 4, 1, 1);
+        Check.behind("full 6;plain 0 3 3;plain 1 0 0;likes 0 1;", 1, 0, 2, 3, 1);
+        Check.behind("full 6;plain 0 3 3;plain 1 0 0;likes 0 1;step 2;", 1, 0, 2, 2, 2);
+        Check.behind("full 6;plain 0 4 0;plain 0 0 4;likes 0 1;step 9;", 1, 0, 0, 4, 2);
+        Check.behind("full 9;bold 0 9 0;plain 1 0 9;likes 0 1;step 2;", 1, 0, 5, 4, 0);
         // All at once, by what they were at dusk: these two change places.
-        behind(TWO + "step 9;", 1, 0, 0, 4, 0);
-        behind(TWO + "step 9;", 1, 1, 4, 0, 0);
+        Check.behind(TWO + "step 9;", 1, 0, 0, 4, 0);
+        Check.behind(TWO + "step 9;", 1, 1, 4, 0, 0);
     }
 
     private static void drunks() {
-        behind("full 4;drunk 0 2 1;", 1, 0, 1, 2, 1);
-        behind("full 4;drunk 0 0 2;", 1, 0, 0, 1, 3);
-        behind("full 4;drunk 0 0 0;", 1, 0, 1, 0, 3);
-        behind("full 6;drunk 0 6 0;plain 1 0 0;likes 0 1;", 1, 0, 4, 1, 1);
-        behind("full 6;drunk 0 3 2;plain 1 0 5;likes 0 1;step 2;", 1, 0, 1, 3, 2);
-        behind("full 6;drunk 0 6 0;widow 0 5 0;fright 1;", 3, 0, 6, 0, 0);
+        Check.behind("full 4;drunk 0 2 1;", 1, 0, 1, 2, 1);
+        Check.behind("full 4;drunk 0 0 2;", 1, 0, 0, 1, 3);
+        Check.behind("full 4;drunk 0 0 0;", 1, 0, 1, 0, 3);
+        Check.behind("full 6;drunk 0 6 0;plain 1 0 0;likes 0 1;", 1, 0, 4, 1, 1);
+        Check.behind("full 6;drunk 0 3 2;plain 1 0 5;likes 0 1;step 2;", 1, 0, 1, 3, 2);
+        Check.behind("full 6;drunk 0 6 0;widow 0 5 0;fright 1;", 3, 0, 6, 0, 0);
         // Whom it LIKES is OUT: it staggers all the same.
-        behind("full 6;drunk 0 0 0;plain 0 6 0;plain 1 6 0;likes 0 1;easter 9;fog 0 0 2;", 2, 0, 3, 0, 3);
-    }
-
-    private static int[] spouses(LampValley x) {
-        int[] spouses = new int[x.count(1)];
-        for (int lamp = 0; lamp < spouses.length; lamp++) {
-            spouses[lamp] = x.lamp(lamp, 6);
-        }
-        return spouses;
+        Check.behind("full 6;drunk 0 0 0;plain 0 6 0;plain 1 6 0;likes 0 1;easter 9;fog 0 0 2;", 2, 0, 3, 0, 3);
     }
 
     private static void marrying() {
         LampValley x = Check.told("full 4;plain 0 4 0;plain 0 4 0;plain 1 4 0;plain 1 4 0;plain 1 4 0;");
-        Check.row("nobody marries in the first dusk", spouses(x), -1, -1, -1, -1, -1);
+        Check.row("nobody marries in the first dusk", Check.spouses(x), -1, -1, -1, -1, -1);
         Check.same("two couples", x.nights(1), 2);
-        Check.row("the least first", spouses(x), 2, 3, 0, 1, -1);
+        Check.row("the least first", Check.spouses(x), 2, 3, 0, 1, -1);
         LampValley y = Check.told("full 9;near 2;plain 1 9 0;plain 0 6 3;plain 0 7 2;plain 1 5 4;");
         Check.same("couples by near", y.nights(1), 2);
-        Check.row("no further than near", spouses(y), 2, 3, 0, 1);
+        Check.row("no further than near", Check.spouses(y), 2, 3, 0, 1);
         Check.same("the night of it", y.lamp(0, 7) * 10 + y.lamp(3, 7), 0);
         Check.same("no more of them", y.nights(5), 0);
         LampValley z = Check.told("full 9;near 2;plain 1 9 0;plain 0 6 3;");
@@ -136,7 +121,7 @@ public final class NightTest {
         Check.same("beyond easter", x.nights(6), -1);
         Check.same("none went by", x.count(7) * 10 + x.count(12), 1);
         Check.same("up to easter", x.nights(5), 1);
-        Check.row("married", spouses(x), 1, 0);
+        Check.row("married", Check.spouses(x), 1, 0);
         Check.same("in night 1", x.lamp(0, 7), 1);
         Check.same("at easter", x.nights(1), -1);
         Check.same("99 nights", x.nights(99), -1);
@@ -170,7 +155,7 @@ public final class NightTest {
         Check.same("the couple of night 0 is married still", x.lamp(1, 6) * 10 + x.lamp(1, 7), 30);
         Check.same("undo all", x.undo(Integer.MAX_VALUE), 1);
         Check.row("as told", Check.oils(x, 0), 9, 0, 0);
-        Check.row("nobody is married", spouses(x), -1, -1, -1, -1);
+        Check.row("nobody is married", Check.spouses(x), -1, -1, -1, -1);
         Check.same("nights and couples", x.count(7) * 10 + x.count(8), 0);
         Check.same("married anew", x.nights(1), 1);
         for (int nights : new int[] {-1, Integer.MIN_VALUE}) {

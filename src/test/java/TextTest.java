@@ -19,17 +19,9 @@ public final class TextTest {
         Check.finish("TextTest");
     }
 
-    private static int[] counts(LampValley x) {
-        int[] counts = new int[13];
-        for (int what = 0; what <= 12; what++) {
-            counts[what] = x.count(what);
-        }
-        return counts;
-    }
-
     private static void newObject() {
         LampValley x = new LampValley();
-        Check.row("counts of a new object", counts(x), 12, 0, 1, 0, 0, 40, 0, 0, 0, 0, 0, 0, 0);
+        Check.row("counts of a new object", Check.counts(x), 12, 0, 1, 0, 0, 40, 0, 0, 0, 0, 0, 0, 0);
         Check.same("fault of a new object", x.fault(), -1);
         Check.same("restore of a new object", x.restore(), false);
         Check.noSuch("lamp(0, 0) of a new object", () -> x.lamp(0, 0));
@@ -62,14 +54,14 @@ public final class TextTest {
 
     private static void goodTexts() {
         LampValley x = Check.told("");
-        Check.row("counts of an empty text", counts(x), 12, 0, 1, 0, 0, 40, 0, 0, 0, 0, 0, 0, 0);
+        Check.row("counts of an empty text", Check.counts(x), 12, 0, 1, 0, 0, 40, 0, 0, 0, 0, 0, 0, 0);
         Check.told(" \n \n");
         x = Check.told("full 30;step 9;near 9;fright 9;easter 99;plain 1 30 0;");
-        Check.row("the most", counts(x), 30, 1, 9, 9, 9, 99, 0, 0, 0, 0, 0, 0, 0);
+        Check.row("the most", Check.counts(x), 30, 1, 9, 9, 9, 99, 0, 0, 0, 0, 0, 0, 0);
         x = Check.told("full 1;step 1;near 0;fright 0;easter 1;");
-        Check.row("the least", counts(x), 1, 0, 1, 0, 0, 1, 0, 0, 0, 0, 0, 0, 0);
+        Check.row("the least", Check.counts(x), 1, 0, 1, 0, 0, 1, 0, 0, 0, 0, 0, 0, 0);
         x = Check.told("\n full007;plain1 02\n003;widow 0 0 7 ; likes 1 0;fog 00 0 1;fog 099 1 0;fog 0 0 1;");
-        Check.row("no blanks needed, zeros ahead", counts(x), 7, 2, 1, 0, 0, 40, 3, 0, 0, 0, 0, 0, 0);
+        Check.row("no blanks needed, zeros ahead", Check.counts(x), 7, 2, 1, 0, 0, 40, 3, 0, 0, 0, 0, 0, 0);
         Check.row("lamp 0", lamps(x, 0), 0, 1, 2, 3, 2, -1, -1, -1);
         Check.row("lamp 1", lamps(x, 1), 4, 0, 0, 7, 0, 0, -1, -1);
         x = Check.told("plain 0 0 0;shy 1 1 1;bold 0 2 2;drunk 1 3 3;widow 0 4 4;plain 1 12 0;");
@@ -93,7 +85,7 @@ public final class TextTest {
         LampValley x = new LampValley();
         Check.same("valley of " + text, Check.tell(x, text), fault);
         Check.same("fault of " + text, x.fault(), place);
-        Check.row("counts behind " + text, counts(x), 12, 0, 1, 0, 0, 40, 0, 0, 0, 0, 1, 0, 0);
+        Check.row("counts behind " + text, Check.counts(x), 12, 0, 1, 0, 0, 40, 0, 0, 0, 0, 1, 0, 0);
     }
 
     private static void signsThatCantStand() {
@@ -192,9 +184,9 @@ public final class TextTest {
         Check.illegal("valley(-1)", () -> x.valley(-1));
         Check.illegal("valley(21)", () -> x.valley(21));
         Check.illegal("valley of the least int", () -> x.valley(Integer.MIN_VALUE));
-        Check.row("counts behind what is illegal", counts(x), 4, 2, 1, 0, 0, 3, 0, 2, 0, 20, 0, 0, 0);
+        Check.row("counts behind what is illegal", Check.counts(x), 4, 2, 1, 0, 0, 3, 0, 2, 0, 20, 0, 0, 0);
         Check.same("a fault", x.valley(1), 1);
-        Check.row("counts behind a fault", counts(x), 4, 2, 1, 0, 0, 3, 0, 2, 0, 0, 1, 0, 0);
+        Check.row("counts behind a fault", Check.counts(x), 4, 2, 1, 0, 0, 3, 0, 2, 0, 0, 1, 0, 0);
         Check.same("book behind a fault", x.book(1, 0, 0), 3);
         Check.same("fault", x.fault(), 0);
         Check.illegal("valley(1) of an empty tape", () -> x.valley(1));
@@ -206,7 +198,7 @@ public final class TextTest {
         x.nights(9);
         Check.same("a second fault", Check.tell(x, "full 4;full 4;"), 4);
         Check.same("a new valley", Check.tell(x, "plain 0 1 2;"), 0);
-        Check.row("counts of a new valley", counts(x), 12, 1, 1, 0, 0, 40, 0, 0, 0, 0, 1, 1, 1);
+        Check.row("counts of a new valley", Check.counts(x), 12, 1, 1, 0, 0, 40, 0, 0, 0, 0, 1, 1, 1);
         Check.same("no fault", x.fault(), -1);
         Check.same("no image", x.restore(), false);
         Check.same("no likes", x.lamp(0, 5), -1);
