@@ -15,6 +15,7 @@ public final class AskEdgeTest {
     public static void main(String[] args) {
         endFromNight100On();
         endByAnEvenNumber();
+        endByAllColours();
         endFromNowOn();
         endWhats();
         halfStepsCutUp();
@@ -74,6 +75,27 @@ public final class AskEdgeTest {
         ends("full 1;plain 0 1 0;plain 0 0 1;plain 0 0 0;likes 0 1;likes 1 2;likes 2 0;", 6, 7);
         ends("full 1;drunk 0 1 0;drunk 1 1 0;", 2, 0);
         ends("full 9;plain 0 9 0;plain 1 9 0;plain 0 0 9;", 2, 4);
+    }
+
+    // "till all LAMPS are (and are OUT) as they were": two colours are never taken for one
+    private static void endByAllColours() {
+        // A drunk one that likes none goes round in three NIGHTS, however the others stand.
+        for (int full = 1; full <= 30; full++) {
+            for (int place = 0; place < 6; place++) {
+                StringBuilder text = new StringBuilder("full " + full + ";");
+                for (int lamp = 0; lamp < 6; lamp++) {
+                    int red = (full + 7 * lamp) % (full + 1);
+                    int green = (5 * lamp + place) % (full - red + 1);
+                    text.append(lamp == place ? "drunk 0 " : "plain 0 ").append(red).append(' ').append(green).append(';');
+                }
+                ends(text.toString(), 6, 63);
+            }
+        }
+        ends("full 30;drunk 1 27 2;shy 1 20 2;", 6, 3);
+        ends("full 24;drunk 0 10 9;shy 0 9 8;", 6, 3);
+        ends("full 3;shy 0 2 1;drunk 0 2 1;", 6, 3);
+        // Three who come to one another's places, two of them every other NIGHT.
+        ends("full 27;step 3;shy 0 0 26;shy 0 12 12;bold 0 15 3;likes 0 1;likes 1 2;likes 2 0;", 4, 7);
     }
 
     // "THE END, from now on, EASTER or not"
